@@ -513,12 +513,8 @@ public final class ScalarScribe {
         /** False when the row has no place for all of it. */
         boolean writeAll(Row from, Row to) {
             begin();
-            int plain = writePlain(from, to);
-            if (plain == NONE) {
-                return false;
-            }
             int next = NONE;
-            for (int told = plain; told < from.size; told++) {
+            for (int told = writePlain(from, to); told < from.size; told++) {
                 next = nextToTell(from, next);
                 if (!tell(from, next, told + 1, to)) {
                     return false;
@@ -527,21 +523,20 @@ public final class ScalarScribe {
             return true;
         }
 
-        /** How many scalars are told as they are; NONE when the row has no place for them. */
+        /** How many scalars are told as they are; a whole list of such leaves the output room. */
         private static int writePlain(Row from, Row to) {
             int plain = 0;
-            boolean written = true;
             for (int i = 0; i < from.size; i++) {
                 int scalar = from.unitAt(i);
                 if (scalar < FIRST_OTHER) {
-                    written = to.add(scalar) && written;
+                    to.add(scalar);
                     plain++;
                 }
             }
             if (plain > 0) {
-                written = to.add(HYPHEN) && written;
+                to.add(HYPHEN);
             }
-            return written ? plain : NONE;
+            return plain;
         }
 
         /** Where the least scalar stands that comes, by value and then by place, behind the last. */

@@ -217,6 +217,12 @@ public final class PromiseTest {
         lettersRead("\u0000\u007f-a", 128, 0, 127);
         lettersRead("dn32g", 1114111);
 
+        ScalarScribe emptied = Check.fed('a', '-');
+        emptied.fromLetters();
+        emptied.erase();
+        check.due("6: the empty row takes its place", emptied.fromLetters(), 0);
+        check.due("6: the list is empty", emptied.count(), 0);
+
         ScalarScribe full = Check.fed(Check.repeated('a', 120));
         check.due("6: 120 numbers", full.fromLetters(), 120);
         check.dueRow("6: 120 numbers", Check.listOf(full), Check.repeated(128, 120));
@@ -267,6 +273,9 @@ public final class PromiseTest {
         // The number 2147483519 makes V the greatest int, one more is an overflow of V.
         lettersRefused(-4, text("8016146o"));
         lettersRefused(-2, text("9016146o"));
+        // Behind "x-" the greatest int is a number still: V is but half of it then.
+        lettersRefused(-4, text("x-w416146o"));
+        lettersRefused(-2, text("x-x416146o"));
         // Behind "a", P is 1: 2147483646 makes it the greatest int, one more is an overflow of P,
         // and again one more is an overflow of the sum.
         lettersRefused(-4, text("a06749585s"));
@@ -340,6 +349,17 @@ public final class PromiseTest {
         check.due("8: more than 400", edge.toEights(), -1);
         check.due("8: the output stays", edge.length(), 400);
         check.due("8: its end stays", edge.out(399), 128);
+
+        ScalarScribe odd = listed('x', 65536);
+        odd.toLetters();
+        odd.turn();
+        Check.feedAll(odd, Check.repeated('a', 98));
+        check.due("8: one and 99 pairs", odd.fromLetters(), 100);
+        check.due("8: 397 units", odd.toEights(), 397);
+        Check.feedAll(odd, 'a');
+        check.due("8: one and 100 pairs", odd.fromLetters(), 101);
+        check.due("8: 401 units", odd.toEights(), -1);
+        check.due("8: the output stays at 397", odd.length(), 397);
     }
 
     private static void promise9ToSixteens() {
@@ -383,6 +403,7 @@ public final class PromiseTest {
         check.due("10: '" + text + "'", x.toLetters(), text.length());
         check.dueRow("10: '" + text + "'", Check.outputOf(x), text.codePoints().toArray());
         check.dueRow("10: the list stays", Check.listOf(x), scalars);
+        check.due("10: once more", x.toLetters(), text.length());
     }
 
     private static void promise11Turn() {
