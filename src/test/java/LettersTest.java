@@ -62,22 +62,32 @@ public final class LettersTest {
     }
 
     private static void writeAndReadAgain(List<Integer> scalars) {
-        ScalarScribe x = new ScalarScribe();
-        for (int unit : Model.rowOf(scalars, false)) {
-            x.feed(unit);
-        }
-        check.due("listed", x.fromSixteens(), scalars.size());
         List<Integer> units = Model.lettersOf(scalars);
-        check.due("write " + scalars, x.toLetters(), units.size() > 400 ? -1 : units.size());
-        if (units.size() <= 400) {
-            check.dueRow("write " + scalars, Check.outputOf(x), Model.toArray(units));
+        boolean tooMany = units.size() > 400;
+        ScalarScribe x = listed(scalars);
+        check.due("write " + scalars, x.toLetters(), tooMany ? -1 : units.size());
+        if (!tooMany) {
+            // An object answers but 512 calls, so that each half of the output is asked of its own.
+            int half = units.size() / 2;
+            ScalarScribe y = listed(scalars);
+            y.toLetters();
+            check.dueRow("write " + scalars, Check.outputOf(x, 0, half),
+                    Model.toArray(units.subList(0, half)));
+            check.dueRow("write " + scalars, Check.outputOf(y, half, units.size()),
+                    Model.toArray(units.subList(half, units.size())));
         }
-        x.keep();
         if (units.size() <= 120) {
+            x.keep();
             x.turn();
             check.due("read " + units, x.fromLetters(), scalars.size());
             check.due("the same " + scalars, x.compare(false), 0);
         }
+    }
+
+    private static ScalarScribe listed(List<Integer> scalars) {
+        ScalarScribe x = Check.fed(Model.toArray(Model.rowOf(scalars, false)));
+        check.due("listed", x.fromSixteens(), scalars.size());
+        return x;
     }
 
     private static void readAsTheModelDoes(List<Integer> units) {
@@ -155,7 +165,8 @@ public final class LettersTest {
     private static void spoil(List<Integer> units) {
         if (!units.isEmpty()) {
             int at = random.nextInt(units.size());
-            units.set(at, random.nextInt(3) == 0 ? random.nextInt(140) - 5 : '0' + random.nextInt(10));
+            boolean anyUnit = random.nextInt(3) == 0;
+            units.set(at, anyUnit ? random.nextInt(140) - 5 : '0' + random.nextInt(10));
         }
     }
 }

@@ -68,8 +68,9 @@ public final class RunsTest {
                 check.due(when + "count", scribe.count(), model.count());
                 break;
             case 16:
-            case 17:
                 check.due(when + "point " + index, scribe.point(index), model.point(index));
+                break;
+            case 17:
                 int near = random.nextInt(model.count() + 1);
                 check.due(when + "point " + near, scribe.point(near), model.point(near));
                 break;
@@ -102,7 +103,8 @@ public final class RunsTest {
             case 1:
                 return random.nextInt(128);
             case 2:
-                return random.nextInt(3) == 0 ? 55296 + random.nextInt(2048) : random.nextInt(65536);
+                boolean surrogate = random.nextInt(3) == 0;
+                return surrogate ? 55296 + random.nextInt(2048) : random.nextInt(65536);
             case 3:
                 return random.nextInt(3) == 0 ? 'a' : '0' + random.nextInt(75);
             case 4:
