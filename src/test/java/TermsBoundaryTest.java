@@ -244,6 +244,9 @@ public final class TermsBoundaryTest {
         eights(4096, 225, 128, 128);
         eights(4159, 225, 128, 191);
         eights(4160, 225, 129, 128);
+        eights(53247, 236, 191, 191);
+        eights(53248, 237, 128, 128);
+        eightsRefused(-2, 237, 127, 128);
         eights(65535, 239, 191, 191);
         eights(65536, 240, 144, 128, 128);
         eightsRefused(-2, 240, 128, 128, 128);
