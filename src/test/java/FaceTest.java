@@ -46,6 +46,7 @@ public final class FaceTest {
         checkPrivateNames(check, scribe);
         checkStatics(check, scribe);
         for (Class<?> inside : scribe.getDeclaredClasses()) {
+            check.due(inside + " is static", Modifier.isStatic(inside.getModifiers()), true);
             check.due(inside + " is hidden",
                     inside.getModifiers() & (Modifier.PUBLIC | Modifier.PROTECTED), 0);
             checkStatics(check, inside);
