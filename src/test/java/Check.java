@@ -42,6 +42,13 @@ final class Check {
         }
     }
 
+    void due(String what, String got, String want) {
+        asked++;
+        if (!got.equals(want)) {
+            tellWrong(what, got, want);
+        }
+    }
+
     void dueRow(String what, int[] got, int... want) {
         asked++;
         if (!Arrays.equals(got, want)) {
